@@ -1,0 +1,72 @@
+/** Compares answers with what is due, prints each that is not, and ends the test that uses it. */
+final class Check {
+    private static int wrong = 0;
+    private static int looked = 0;
+
+    private Check() {
+    }
+
+    static void due(String call, long got, long want) {
+        looked++;
+        if (got != want) {
+            fail(call + " answered " + got + ", due is " + want);
+        }
+    }
+
+    static void due(String call, boolean got, boolean want) {
+        looked++;
+        if (got != want) {
+            fail(call + " answered " + got + ", due is " + want);
+        }
+    }
+
+    static void due(String call, String got, String want) {
+        looked++;
+        if (!got.equals(want)) {
+            fail(call + " answered " + got + ", due is " + want);
+        }
+    }
+
+    /** A call that is due to throw an IndexOutOfBoundsException. */
+    static void noSuch(String call, Runnable run) {
+        thrown(call, run, IndexOutOfBoundsException.class);
+    }
+
+    /** A call that is due to throw an IllegalArgumentException. */
+    static void outOfRange(String call, Runnable run) {
+        thrown(call, run, IllegalArgumentException.class);
+    }
+
+    /** A call that is due to throw an IllegalStateException. */
+    static void refused(String call, Runnable run) {
+        thrown(call, run, IllegalStateException.class);
+    }
+
+    // The very class is asked for: what the machine throws is of a class below these.
+    private static void thrown(String call, Runnable run, Class<?> want) {
+        looked++;
+        String got = "nothing";
+        try {
+            run.run();
+        } catch (RuntimeException e) {
+            got = e.getClass().getName();
+        }
+        if (!got.equals(want.getName())) {
+            fail(call + " threw " + got + ", due is " + want.getName());
+        }
+    }
+
+    static void fail(String text) {
+        wrong++;
+        if (wrong <= 50) {
+            System.out.println("  " + text);
+        }
+    }
+
+    static void end() {
+        System.out.println("  " + looked + " looks, " + wrong + " wrong");
+        if (wrong != 0 || looked == 0) {
+            System.exit(1);
+        }
+    }
+}
