@@ -42,18 +42,24 @@ final class Check {
         thrown(call, run, IllegalStateException.class);
     }
 
-    // The very class is asked for: what the machine throws is of a class below these.
     private static void thrown(String call, Runnable run, Class<?> want) {
         looked++;
         String got = "nothing";
         try {
             run.run();
         } catch (RuntimeException e) {
-            got = e.getClass().getName();
+            got = told(e);
         }
         if (!got.equals(want.getName())) {
             fail(call + " threw " + got + ", due is " + want.getName());
         }
+    }
+
+    /** The class of an exception; what the class did not throw itself, but the machine or the library, is told apart. */
+    static String told(RuntimeException e) {
+        StackTraceElement[] trace = e.getStackTrace();
+        boolean own = trace.length > 0 && trace[0].getClassName().matches("(HarborTides|PortModel)([$].*)?");
+        return own ? e.getClass().getName() : e.getClass().getName() + " by itself";
     }
 
     static void fail(String text) {

@@ -1,10 +1,14 @@
+import java.lang.reflect.Field;
+import java.util.List;
+
 /** Promises 17 to 19: moves, move and isSound. */
 public final class MovesTest {
-    public static void main(String[] args) {
+    public static void main(String[] args) throws Exception {
         noMoves();
         movesOfOnePort();
         soundAfterAll();
         moreThanFiftyMoves();
+        soundnessIsFoundAnew();
         Check.end();
     }
 
@@ -86,5 +90,54 @@ public final class MovesTest {
             Check.due("isSound(" + move + ")", x.isSound(move), true);
             Check.due("the way of move " + move, x.move(move) % 10, move / 6 % 2);
         }
+    }
+
+    // By the public face no move is ever unsound: only a hand inside the object can show that isSound looks.
+    private static void soundnessIsFoundAnew() throws Exception {
+        HarborTides x = new HarborTides();
+        x.ship(1, 20, 2, 0);
+        x.ship(1, 20, 1, 1);
+        x.ship(1, 20, 0, 0);
+        x.order(0, 1);
+        x.order(1, 1);
+        x.pass(3);
+        x.order(0, 5);
+        x.pass(4);
+        x.order(2, 8);
+        x.pass(1);
+        Check.due("moves()", x.moves(), 4);
+        Object[] moves = ((List<?>) inside(inside(x, "log"), "begun")).toArray();
+        int[] surges = (int[]) inside(inside(x, "water"), "surges");
+        for (int move = 0; move < 4; move++) {
+            Check.due("isSound(" + move + ")", x.isSound(move), true);
+        }
+        for (int hour : new int[] {1, 2}) {
+            surges[hour] = -100;
+            Check.due("isSound(0) without water at " + hour, x.isSound(0), false);
+            Check.due("isSound(2), which began later", x.isSound(2), true);
+            surges[hour] = 0;
+        }
+        dueUnsound(x, 1, moves[1], "pilot", inside(moves[0], "pilot"));
+        dueUnsound(x, 1, moves[1], "tugs", inside(moves[0], "tugs"));
+        dueUnsound(x, 1, moves[1], "tugs", 0b1);
+        dueUnsound(x, 3, moves[2], "hour", 7);
+        dueUnsound(x, 3, moves[2], "out", false);
+        dueUnsound(x, 1, moves[1], "ship", inside(moves[0], "ship"));
+    }
+
+    private static void dueUnsound(HarborTides x, int move, Object changed, String name, Object value) throws Exception {
+        Field field = changed.getClass().getDeclaredField(name);
+        field.setAccessible(true);
+        Object before = field.get(changed);
+        field.set(changed, value);
+        Check.due("isSound(" + move + ") with another " + name, x.isSound(move), false);
+        field.set(changed, before);
+        Check.due("isSound(" + move + ") with its own " + name, x.isSound(move), true);
+    }
+
+    private static Object inside(Object object, String name) throws Exception {
+        Field field = object.getClass().getDeclaredField(name);
+        field.setAccessible(true);
+        return field.get(object);
     }
 }
