@@ -128,7 +128,10 @@ public final class HarborTides {
         }
         int before = log.count();
         for (int k = 0; k < hours; k++) {
-            passHour();
+            now++;
+            endMoves();
+            takeBerthDues();
+            lookAtOrders();
         }
         return log.count() - before;
     }
@@ -234,13 +237,6 @@ public final class HarborTides {
     private Ship shipAt(int ship) {
         checkPlace(ship, ships.size());
         return ships.get(ship);
-    }
-
-    private void passHour() {
-        now++;
-        endMoves();
-        takeBerthDues();
-        lookAtOrders();
     }
 
     private void endMoves() {
