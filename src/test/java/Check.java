@@ -1,3 +1,5 @@
+import java.util.List;
+
 /** Compares answers with what is due, prints each that is not, and ends the test that uses it. */
 final class Check {
     private static int wrong = 0;
@@ -40,6 +42,27 @@ final class Check {
     /** A call that is due to throw an IllegalStateException. */
     static void refused(String call, Runnable run) {
         thrown(call, run, IllegalStateException.class);
+    }
+
+    /** A call of a port that is due to throw an IndexOutOfBoundsException, and to change nothing. */
+    static void noSuch(HarborTides port, String call, Runnable run) {
+        List<Object> before = Inside.all(port);
+        noSuch(call, run);
+        due("nothing is changed by " + call, Inside.all(port).equals(before), true);
+    }
+
+    /** A call of a port that is due to throw an IllegalArgumentException, and to change nothing. */
+    static void outOfRange(HarborTides port, String call, Runnable run) {
+        List<Object> before = Inside.all(port);
+        outOfRange(call, run);
+        due("nothing is changed by " + call, Inside.all(port).equals(before), true);
+    }
+
+    /** A call of a port that is due to throw an IllegalStateException, and to change nothing. */
+    static void refused(HarborTides port, String call, Runnable run) {
+        List<Object> before = Inside.all(port);
+        refused(call, run);
+        due("nothing is changed by " + call, Inside.all(port).equals(before), true);
     }
 
     private static void thrown(String call, Runnable run, Class<?> want) {

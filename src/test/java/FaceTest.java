@@ -25,6 +25,10 @@ public final class FaceTest {
         methods();
         fields();
         classesInside();
+        sizes(HarborTides.class);
+        for (Class<?> inside : HarborTides.class.getDeclaredClasses()) {
+            sizes(inside);
+        }
         Check.end();
     }
 
@@ -100,5 +104,20 @@ public final class FaceTest {
             Check.due(inside.getName() + " is hidden and static", hidden && Modifier.isStatic(modifiers), true);
         }
         Check.due("some twelve classes at most", HarborTides.class.getDeclaredClasses().length <= 11, true);
+    }
+
+    // LANGUAGE.md, rule 11: at most seven parameters, some twenty fields beside the constants.
+    private static void sizes(Class<?> type) {
+        for (Method method : type.getDeclaredMethods()) {
+            Check.due(method.getName() + " has seven parameters at most", method.getParameterCount() <= 7, true);
+        }
+        for (Constructor<?> made : type.getDeclaredConstructors()) {
+            Check.due(type.getName() + "'s constructor has seven parameters at most", made.getParameterCount() <= 7, true);
+        }
+        int fields = 0;
+        for (Field field : type.getDeclaredFields()) {
+            fields += Modifier.isStatic(field.getModifiers()) ? 0 : 1;
+        }
+        Check.due(type.getName() + " has twenty fields at most", fields <= 20, true);
     }
 }

@@ -1,13 +1,16 @@
+import java.util.List;
 import java.util.Random;
 import java.util.function.IntSupplier;
 
 /**
- * Promises 1 to 26 together: runs of up to 512 calls, drawn with fixed seeds, each answer and each exception
- * compared with PortModel's, and now and then (always behind a call that threw) all that can be seen of both.
+ * Promises 1 to 26 together: runs of 512 calls, as many as an object is promised, drawn with fixed seeds, each
+ * answer and each exception compared with PortModel's. What the port holds is compared with what it held ahead
+ * of each call that threw. The last calls of a run read alone.
  */
 public final class ModelTest {
-    private static final int RUNS = 400;
+    private static final int RUNS = 1000;
     private static final int CALLS = 512;
+    private static final int READS_AT_THE_END = 100;
     private static final int[] STRANGE = {-1, 0, 1, 5, 6, 11, 12, 29, 30, 48, 49, 100, 101, 150, 151, 200, 201, 3000, 3001,
         3100, 3101, Integer.MAX_VALUE, Integer.MIN_VALUE};
 
@@ -17,7 +20,7 @@ public final class ModelTest {
     private final int hurry;
     private final int deepest;
     private final StringBuilder told = new StringBuilder();
-    private boolean threw;
+    private int made = 0;
 
     private static long moves;
     private static long lost;
@@ -41,11 +44,8 @@ public final class ModelTest {
     }
 
     private void run(int seed) {
-        for (int call = 0; call < CALLS; call++) {
-            boolean same = call(seed);
-            if (same && (threw || call % 16 == 0 || call == CALLS - 1)) {
-                same = sameView(seed);
-            }
+        while (made < CALLS) {
+            boolean same = made < CALLS - READS_AT_THE_END ? call(seed) : readCall(seed);
             if (!same) {
                 return;
             }
@@ -142,66 +142,89 @@ public final class ModelTest {
     }
 
     private boolean readCall(int seed) {
-        int ship = aShip();
-        int hour = within(0, 3000);
-        int place = within(0, 5);
+        int kind = random.nextInt(16);
+        if (kind < 9) {
+            return shipRead(seed, kind, aShip());
+        }
+        if (kind < 13) {
+            return pilotOrWaterRead(seed, kind);
+        }
         int move = within(0, Math.max(0, model.moves() - 1));
-        return same(seed, "depth(" + hour + ")", () -> port.depth(hour), () -> model.depth(hour))
-            && same(seed, "hasWater(" + ship + ", " + hour + ")",
-                () -> bit(port.hasWater(ship, hour)), () -> bit(model.hasWater(ship, hour)))
-            && same(seed, "rota(" + place + ")", () -> port.rota(place), () -> model.rota(place))
-            && same(seed, "isReady(" + place + ")", () -> bit(port.isReady(place)), () -> bit(model.isReady(place)))
-            && same(seed, "earned(" + place + ")", () -> port.earned(place), () -> model.earned(place))
-            && same(seed, "move(" + move + ")", () -> port.move(move), () -> model.move(move))
-            && same(seed, "isSound(" + move + ")", () -> bit(port.isSound(move)), () -> bit(model.isSound(move)))
-            && shipReads(seed, ship);
+        if (kind == 13) {
+            return same(seed, "move(" + move + ")", () -> port.move(move), () -> model.move(move));
+        }
+        if (kind == 14) {
+            return same(seed, "isSound(" + move + ")", () -> bit(port.isSound(move)), () -> bit(model.isSound(move)));
+        }
+        return sumRead(seed);
     }
 
-    private boolean shipReads(int seed, int ship) {
-        return same(seed, "state(" + ship + ")", () -> port.state(ship), () -> model.state(ship))
-            && same(seed, "queue(" + ship + ")", () -> port.queue(ship), () -> model.queue(ship))
-            && same(seed, "paid(" + ship + ")", () -> port.paid(ship), () -> model.paid(ship))
-            && same(seed, "lost(" + ship + ")", () -> port.lost(ship), () -> model.lost(ship))
-            && same(seed, "claims(" + ship + ")", () -> port.claims(ship), () -> model.claims(ship));
+    private boolean shipRead(int seed, int kind, int ship) {
+        if (kind < 4) {
+            int hour = within(0, random.nextBoolean() ? 3000 : model.now() + 12);
+            return same(seed, "hasWater(" + ship + ", " + hour + ")",
+                () -> bit(port.hasWater(ship, hour)), () -> bit(model.hasWater(ship, hour)));
+        }
+        if (kind == 4) {
+            return same(seed, "state(" + ship + ")", () -> port.state(ship), () -> model.state(ship));
+        }
+        if (kind == 5) {
+            return same(seed, "queue(" + ship + ")", () -> port.queue(ship), () -> model.queue(ship));
+        }
+        if (kind == 6) {
+            return same(seed, "paid(" + ship + ")", () -> port.paid(ship), () -> model.paid(ship));
+        }
+        if (kind == 7) {
+            return same(seed, "lost(" + ship + ")", () -> port.lost(ship), () -> model.lost(ship));
+        }
+        return same(seed, "claims(" + ship + ")", () -> port.claims(ship), () -> model.claims(ship));
+    }
+
+    private boolean pilotOrWaterRead(int seed, int kind) {
+        int place = within(0, 5);
+        if (kind == 9) {
+            return same(seed, "rota(" + place + ")", () -> port.rota(place), () -> model.rota(place));
+        }
+        if (kind == 10) {
+            return same(seed, "isReady(" + place + ")", () -> bit(port.isReady(place)), () -> bit(model.isReady(place)));
+        }
+        if (kind == 11) {
+            return same(seed, "earned(" + place + ")", () -> port.earned(place), () -> model.earned(place));
+        }
+        int hour = within(0, random.nextBoolean() ? 3100 : Math.min(3100, model.now() + 60));
+        return same(seed, "depth(" + hour + ")", () -> port.depth(hour), () -> model.depth(hour));
+    }
+
+    private boolean sumRead(int seed) {
+        int kind = random.nextInt(4);
+        if (kind == 0) {
+            return same(seed, "tugs()", port::tugs, model::tugs);
+        }
+        if (kind == 1) {
+            return same(seed, "moves()", port::moves, model::moves);
+        }
+        return kind == 2 ? same(seed, "tugPay()", port::tugPay, model::tugPay) : same(seed, "port()", port::port, model::port);
     }
 
     private static int bit(boolean answer) {
         return answer ? 1 : 0;
     }
 
-    private boolean sameView(int seed) {
-        boolean same = same(seed, "tugs()", port::tugs, model::tugs) && same(seed, "moves()", port::moves, model::moves)
-            && same(seed, "tugPay()", port::tugPay, model::tugPay) && same(seed, "port()", port::port, model::port);
-        for (int ship = 0; same && ship < model.ships(); ship++) {
-            int one = ship;
-            int hour = Math.min(3000, model.now() + 1 + random.nextInt(12));
-            same = shipReads(seed, ship) && same(seed, "hasWater(" + one + ", " + hour + ")",
-                () -> bit(port.hasWater(one, hour)), () -> bit(model.hasWater(one, hour)));
-        }
-        for (int place = 0; same && place < 6; place++) {
-            int one = place;
-            same = same(seed, "rota(" + one + ")", () -> port.rota(one), () -> model.rota(one))
-                && same(seed, "isReady(" + one + ")", () -> bit(port.isReady(one)), () -> bit(model.isReady(one)))
-                && same(seed, "earned(" + one + ")", () -> port.earned(one), () -> model.earned(one));
-        }
-        for (int hour = model.now(); same && hour <= Math.min(3100, model.now() + 60); hour++) {
-            int one = hour;
-            same = same(seed, "depth(" + one + ")", () -> port.depth(one), () -> model.depth(one));
-        }
-        return same;
-    }
-
     private boolean same(int seed, String call, IntSupplier got, IntSupplier want) {
+        made++;
         String due = answer(want);
-        threw = due.startsWith("throws");
-        thrown += threw ? 1 : 0;
+        boolean throwing = due.startsWith("throws");
+        thrown += throwing ? 1 : 0;
+        List<Object> before = throwing ? Inside.all(port) : List.of();
         String given = answer(got);
         told.append("  ").append(call).append(" -> ").append(due).append('\n');
         Check.due("run " + seed + ": " + call, given, due);
-        if (!given.equals(due)) {
+        boolean unchanged = !throwing || Inside.all(port).equals(before);
+        Check.due("run " + seed + ": nothing is changed by " + call, unchanged, true);
+        if (!given.equals(due) || !unchanged) {
             System.out.print(told.substring(Math.max(0, told.length() - 4000)));
         }
-        return given.equals(due);
+        return given.equals(due) && unchanged;
     }
 
     private static String answer(IntSupplier call) {

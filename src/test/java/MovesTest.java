@@ -1,9 +1,6 @@
-import java.lang.reflect.Field;
-import java.util.List;
-
 /** Promises 17 to 19: moves, move and isSound. */
 public final class MovesTest {
-    public static void main(String[] args) throws Exception {
+    public static void main(String[] args) {
         noMoves();
         movesOfOnePort();
         soundAfterAll();
@@ -93,7 +90,7 @@ public final class MovesTest {
     }
 
     // By the public face no move is ever unsound: only a hand inside the object can show that isSound looks.
-    private static void soundnessIsFoundAnew() throws Exception {
+    private static void soundnessIsFoundAnew() {
         HarborTides x = new HarborTides();
         x.ship(1, 20, 2, 0);
         x.ship(1, 20, 1, 1);
@@ -106,8 +103,8 @@ public final class MovesTest {
         x.order(2, 8);
         x.pass(1);
         Check.due("moves()", x.moves(), 4);
-        Object[] moves = ((List<?>) inside(inside(x, "log"), "begun")).toArray();
-        int[] surges = (int[]) inside(inside(x, "water"), "surges");
+        Object[] moves = Inside.moves(x).toArray();
+        int[] surges = (int[]) Inside.of(Inside.of(x, "water"), "surges");
         for (int move = 0; move < 4; move++) {
             Check.due("isSound(" + move + ")", x.isSound(move), true);
         }
@@ -117,27 +114,19 @@ public final class MovesTest {
             Check.due("isSound(2), which began later", x.isSound(2), true);
             surges[hour] = 0;
         }
-        dueUnsound(x, 1, moves[1], "pilot", inside(moves[0], "pilot"));
-        dueUnsound(x, 1, moves[1], "tugs", inside(moves[0], "tugs"));
+        dueUnsound(x, 1, moves[1], "pilot", Inside.of(moves[0], "pilot"));
+        dueUnsound(x, 1, moves[1], "tugs", Inside.of(moves[0], "tugs"));
         dueUnsound(x, 1, moves[1], "tugs", 0b1);
         dueUnsound(x, 3, moves[2], "hour", 7);
         dueUnsound(x, 3, moves[2], "out", false);
-        dueUnsound(x, 1, moves[1], "ship", inside(moves[0], "ship"));
+        dueUnsound(x, 1, moves[1], "ship", Inside.of(moves[0], "ship"));
     }
 
-    private static void dueUnsound(HarborTides x, int move, Object changed, String name, Object value) throws Exception {
-        Field field = changed.getClass().getDeclaredField(name);
-        field.setAccessible(true);
-        Object before = field.get(changed);
-        field.set(changed, value);
+    private static void dueUnsound(HarborTides x, int move, Object changed, String name, Object value) {
+        Object before = Inside.of(changed, name);
+        Inside.put(changed, name, value);
         Check.due("isSound(" + move + ") with another " + name, x.isSound(move), false);
-        field.set(changed, before);
+        Inside.put(changed, name, before);
         Check.due("isSound(" + move + ") with its own " + name, x.isSound(move), true);
-    }
-
-    private static Object inside(Object object, String name) throws Exception {
-        Field field = object.getClass().getDeclaredField(name);
-        field.setAccessible(true);
-        return field.get(object);
     }
 }
