@@ -2,6 +2,7 @@
 public final class PayEdgesTest {
     public static void main(String[] args) {
         callsOfTheFirstAndTheLastShip();
+        tidesAndClaimsOfTheFirstAndTheLastShip();
         earnedOfTheFirstAndTheLastPilot();
         nothingPaidAheadOfTheFirstMove();
         paidFallsBelow0();
@@ -43,6 +44,35 @@ public final class PayEdgesTest {
         Check.due("payClaim(24)", x.payClaim(24), 80);
         Check.refused(x, "payClaim(0)", () -> x.payClaim(0));
         Check.refused(x, "payClaim(29)", () -> x.payClaim(29));
+    }
+
+    // The ship 15 takes the berth of all; 0 and 29 wait for it, and lose the tide of the hour 6.
+    private static void tidesAndClaimsOfTheFirstAndTheLastShip() {
+        HarborTides x = new HarborTides();
+        x.table(6, 0);
+        for (int ship = 0; ship < 30; ship++) {
+            x.ship(1 + ship % 4, 30, ship == 15 ? 3 : 0, 0);
+        }
+        for (int ship : new int[] {0, 15, 29}) {
+            x.order(ship, 1);
+        }
+        x.pass(4);
+        x.order(0, 6);
+        x.order(29, 6);
+        x.pass(2);
+        for (int ship = 0; ship < 30; ship++) {
+            boolean end = ship == 0 || ship == 29;
+            Check.due("claims(" + ship + ")", x.claims(ship), end ? 1 : 0);
+            Check.due("lost(" + ship + ")", x.lost(ship), end ? 1 : 0);
+            if (ship != 15) {
+                Check.due("paid(" + ship + ")", x.paid(ship), end ? 100 : 0);
+            }
+        }
+        Check.due("payClaim(0)", x.payClaim(0), 80);
+        Check.due("payClaim(29)", x.payClaim(29), 160);
+        Check.due("paid(0)", x.paid(0), 20);
+        Check.due("paid(29)", x.paid(29), -60);
+        Check.refused(x, "payClaim(28)", () -> x.payClaim(28));
     }
 
     private static void earnedOfTheFirstAndTheLastPilot() {
